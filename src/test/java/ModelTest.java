@@ -29,11 +29,12 @@ public final class ModelTest {
 
     private void run(int run) {
         int cells = CELLS[run % CELLS.length];
-        boolean growing = run % 3 == 0;
+        // Some runs make or push more than they let go, to come to the limits.
+        int favourite = run % 3 == 0 ? 0 : run % 5 == 0 ? 7 : -1;
         SliceHeap heap = new SliceHeap(cells);
         Model model = new Model(cells);
         for (int i = 0; i < PROMISED_CALLS; i++) {
-            int kind = growing && below(3) == 0 ? 0 : KINDS[below(KINDS.length)];
+            int kind = favourite >= 0 && below(3) == 0 ? favourite : KINDS[below(KINDS.length)];
             int[] args = arguments(kind);
             long got = call(heap, kind, args);
             long due = model.call(kind, args);

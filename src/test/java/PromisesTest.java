@@ -29,6 +29,9 @@ public final class PromisesTest {
         countOfRingsAndChains();
         whatNobodyReachesMakesRoom();
         usedAgainIsNew();
+        mostObjects(20, 10);
+        mostObjects(21, 10);
+        mostObjects(120, 60);
         objectsAreApart();
         Check.end();
     }
@@ -555,6 +558,25 @@ public final class PromisesTest {
         x.get(3, 0, 2);
         Check.due("3 the new value", x.look(3), NOTHING);
         Check.due("14 count(0)", x.count(0), 5);
+    }
+
+    private static void mostObjects(int cells, int most) {
+        SliceHeap x = new SliceHeap(cells);
+        String name = "2 SliceHeap(" + cells + ") ";
+        for (int made = 0; made < most; made++) {
+            Check.due(name + "make", x.make(made % 10, 0, 0), 1);
+            if (made < most - 10) {
+                x.push(made % 10);
+            }
+        }
+        Check.due(name + "all are held", x.count(1), most);
+        Check.due(name + "one object more", x.make(0, 0, 0), 0);
+        for (int r = 1; r < 10; r++) {
+            Check.due(name + "no two are one", x.same(0, r), 0);
+        }
+        x.copy(4, -1);
+        Check.due(name + "one is let go", x.make(5, 0, 0), 1);
+        Check.due(name + "which leaves", x.count(1), most - 1);
     }
 
     private static void objectsAreApart() {
