@@ -278,7 +278,10 @@ public final class SliceHeap {
         // A row of things to follow, not recursion: a chain of objects may be hundreds long.
         private void followReached() {
             for (int next = 0; next < reachedObjects && next < reached.length; next++) {
-                reachAll(reached[next].values, reached[next].size);
+                Thing thing = reached[next];
+                if (thing != null) {
+                    reachAll(thing.values, thing.size);
+                }
             }
         }
     }

@@ -22,6 +22,12 @@ final class Check {
         due(call, got ? 1L : 0L, want ? 1L : 0L);
     }
 
+    /** Where tells the promise, and what brought the heap there if that is not plain. */
+    static void due(String where, SliceHeap x, long want, String name, int... args) {
+        Call call = new Call(name, args);
+        due(where + " " + call, call.on(x), want);
+    }
+
     static void end() {
         System.out.println(asked + " answers, " + wrong + " of them wrong");
         if (wrong != 0 || asked == 0) {

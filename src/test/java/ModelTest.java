@@ -10,9 +10,10 @@ public final class ModelTest {
     private static final int PROMISED_CALLS = 512;
     private static final int CALLS_AFTER = 200;
     private static final int[] CELLS = {20, 21, 23, 30, 50, 100, 300, 1000, 3000, 19, 3001, 0, -7};
-    private static final int[] KINDS = {
-        // Weights of the 13 calls, in the order of call(..) below.
-        0, 0, 0, 0, 1, 1, 1, 2, 3, 3, 4, 5, 5, 5, 6, 6, 6, 7, 7, 8, 9, 10, 11, 12, 12};
+    // A call that stands here more than once comes more often.
+    private static final String[] NAMES = {"make", "make", "make", "make", "grow", "grow", "grow", "shrink",
+        "number", "number", "copy", "get", "get", "get", "set", "set", "set", "push", "push", "pop",
+        "look", "numberIn", "same", "count", "count"};
 
     private long seed;
 
@@ -30,21 +31,17 @@ public final class ModelTest {
     private void run(int run) {
         int cells = CELLS[run % CELLS.length];
         // Some runs make or push more than they let go, to come to the limits.
-        int favourite = run % 3 == 0 ? 0 : run % 5 == 0 ? 7 : -1;
+        String favourite = run % 3 == 0 ? "make" : run % 5 == 0 ? "push" : null;
         SliceHeap heap = new SliceHeap(cells);
         Model model = new Model(cells);
         for (int i = 0; i < PROMISED_CALLS; i++) {
-            int kind = favourite >= 0 && below(3) == 0 ? favourite : KINDS[below(KINDS.length)];
-            int[] args = arguments(kind);
-            long got = call(heap, kind, args);
-            long due = model.call(kind, args);
-            Check.due("run " + run + " call " + i + " kind " + kind + " of " + args[0] + ", "
-                    + args[1] + ", " + args[2], got, due);
+            Call call = favourite != null && below(3) == 0 ? any(favourite) : any(anyName());
+            long got = call.on(heap);
+            Check.due("run " + run + " call " + i + " " + call, got, model.answer(call));
         }
         // What these answer is free, but none may throw.
         for (int i = 0; i < CALLS_AFTER; i++) {
-            int kind = KINDS[below(KINDS.length)];
-            call(heap, kind, arguments(kind));
+            any(anyName()).on(heap);
         }
     }
 
@@ -54,61 +51,41 @@ public final class ModelTest {
         return (int) ((seed >>> 33) % bound);
     }
 
+    private String anyName() {
+        return NAMES[below(NAMES.length)];
+    }
+
     private int register() {
-        return below(40) == 0 ? below(14) - 2 : below(10);
+        return below(40) == 0 ? odd() : below(10);
     }
 
     private int size() {
-        return below(30) == 0 ? below(24) - 2 : below(4) == 0 ? below(21) : below(4);
+        return below(30) == 0 ? odd() : below(4) == 0 ? below(21) : below(4);
     }
 
-    private int[] arguments(int kind) {
-        switch (kind) {
-            case 0:
-                return new int[] {register(), size(), register()};
-            case 3:
-                return new int[] {register(), below(5) - 2, 0};
-            case 4:
-                return new int[] {register(), below(6) == 0 ? -1 : register(), 0};
-            case 5:
-                return new int[] {register(), register(), size()};
-            case 6:
-                return new int[] {register(), size(), register()};
-            case 12:
-                return new int[] {below(40) == 0 ? below(9) - 2 : below(5), 0, 0};
-            default:
-                return new int[] {register(), register(), 0};
-        }
+    private int odd() {
+        int any = below(28) - 3;
+        return any == -3 ? Integer.MIN_VALUE : any == 24 ? Integer.MAX_VALUE : any;
     }
 
-    private static long call(SliceHeap heap, int kind, int[] a) {
-        switch (kind) {
-            case 0:
-                return heap.make(a[0], a[1], a[2]);
-            case 1:
-                return heap.grow(a[0], a[1]);
-            case 2:
-                return heap.shrink(a[0]);
-            case 3:
-                return heap.number(a[0], a[1]) ? 1 : 0;
-            case 4:
-                return heap.copy(a[0], a[1]) ? 1 : 0;
-            case 5:
-                return heap.get(a[0], a[1], a[2]) ? 1 : 0;
-            case 6:
-                return heap.set(a[0], a[1], a[2]) ? 1 : 0;
-            case 7:
-                return heap.push(a[0]);
-            case 8:
-                return heap.pop(a[0]);
-            case 9:
-                return heap.look(a[0]);
-            case 10:
-                return heap.numberIn(a[0]);
-            case 11:
-                return heap.same(a[0], a[1]);
+    private Call any(String name) {
+        switch (name) {
+            case "make":
+            case "set":
+                return new Call(name, register(), size(), register());
+            case "get":
+                return new Call(name, register(), register(), size());
+            case "number":
+                return new Call(name, register(), below(5) - 2);
+            case "copy":
+                return new Call(name, register(), below(6) == 0 ? -1 : register());
+            case "grow":
+            case "same":
+                return new Call(name, register(), register());
+            case "count":
+                return new Call(name, below(40) == 0 ? odd() : below(5));
             default:
-                return heap.count(a[0]);
+                return new Call(name, register());
         }
     }
 
@@ -129,31 +106,32 @@ public final class ModelTest {
             this.cells = cells < 20 || cells > 3000 ? 300 : cells;
         }
 
-        private long call(int kind, int[] a) {
-            switch (kind) {
-                case 0:
+        private long answer(Call call) {
+            int[] a = call.args();
+            switch (call.name()) {
+                case "make":
                     return make(a[0], a[1], a[2]);
-                case 1:
+                case "grow":
                     return grow(a[0], a[1]);
-                case 2:
+                case "shrink":
                     return shrink(a[0]);
-                case 3:
+                case "number":
                     return put(a[0], a[1], is(a[0]));
-                case 4:
+                case "copy":
                     return put(a[0], a[1] == -1 ? null : in(a[1]), is(a[0]) && (a[1] == -1 || is(a[1])));
-                case 5:
+                case "get":
                     return put(a[0], value(a[1], a[2]), is(a[0]) && hasValue(a[1], a[2]));
-                case 6:
+                case "set":
                     return set(a[0], a[1], a[2]);
-                case 7:
+                case "push":
                     return push(a[0]);
-                case 8:
+                case "pop":
                     return pop(a[0]);
-                case 9:
+                case "look":
                     return look(a[0]);
-                case 10:
+                case "numberIn":
                     return in(a[0]) instanceof Integer v ? v : 0;
-                case 11:
+                case "same":
                     return same(a[0], a[1]);
                 default:
                     return count(a[0]);

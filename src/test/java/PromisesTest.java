@@ -1,19 +1,9 @@
-/** Each promise by hand: ordinary calls, the edges that the document names, wrong inputs. */
+/** Each promise by hand, in ordinary use; BoundariesTest and FullTest go to the edges. */
 public final class PromisesTest {
-    private static final int[] NO_REGISTERS = {Integer.MIN_VALUE, -2, -1, 10, 11, Integer.MAX_VALUE};
-    private static final int NOTHING = -2;
-    private static final int NUMBER = -3;
-
     public static void main(String[] args) {
         newObject();
-        cellsAreC();
         make();
-        makeRefuses();
-        makeFull();
-        makeCountsWhatTheCallNames();
         grow();
-        growRefuses();
-        growFull();
         shrink();
         number();
         copy();
@@ -41,42 +31,11 @@ public final class PromisesTest {
     private static void newObject() {
         SliceHeap x = new SliceHeap(100);
         for (int r = 0; r < 10; r++) {
-            Check.due("1 look(" + r + ")", x.look(r), NOTHING);
+            Check.due("1 look(" + r + ")", x.look(r), States.NOTHING);
         }
         for (int what = 0; what <= 4; what++) {
             Check.due("1 count(" + what + ")", x.count(what), 0);
         }
-    }
-
-    private static void cellsAreC() {
-        cellsAre(Integer.MIN_VALUE, 300);
-        cellsAre(-20, 300);
-        cellsAre(0, 300);
-        cellsAre(19, 300);
-        cellsAre(20, 20);
-        cellsAre(21, 21);
-        cellsAre(299, 299);
-        cellsAre(2999, 2999);
-        cellsAre(3000, 3000);
-        cellsAre(3001, 300);
-        cellsAre(Integer.MAX_VALUE, 300);
-    }
-
-    private static void cellsAre(int cells, int due) {
-        SliceHeap x = new SliceHeap(cells);
-        String name = "1 SliceHeap(" + cells + ") ";
-        int left = due;
-        // Each object holds the one before it, so all stay reachable; what is left of every C
-        // that is tried here is 2 .. 21 cells, room for one object more.
-        while (left >= 22) {
-            Check.due(name + "make", x.make(0, 20, 0), 1);
-            left -= 22;
-        }
-        Check.due(name + "one more than C", x.make(1, left - 1, 0), 0);
-        Check.due(name + "exactly C", x.make(1, left - 2, 0), 1);
-        Check.due(name + "count(0)", x.count(0), due);
-        Check.due(name + "grow when full", x.grow(1, 1), 0);
-        Check.due(name + "make when full", x.make(2, 0, 2), 0);
     }
 
     // Promise 2
@@ -107,52 +66,7 @@ public final class PromisesTest {
         Check.due("2 make(4, 2, 5)", x.make(4, 2, 5), 1);
         x.number(6, 1);
         Check.due("2 get(6, 4, 1)", x.get(6, 4, 1), true);
-        Check.due("2 a value NOTHING", x.look(6), NOTHING);
-    }
-
-    private static void makeRefuses() {
-        SliceHeap x = new SliceHeap(20);
-        x.number(0, 7);
-        for (int bad : NO_REGISTERS) {
-            Check.due("2 make(" + bad + ", 1, 0)", x.make(bad, 1, 0), -1);
-            Check.due("2 make(0, 1, " + bad + ")", x.make(0, 1, bad), -1);
-            Check.due("2 make(0, 0, " + bad + ")", x.make(0, 0, bad), -1);
-        }
-        for (int bad : new int[] {Integer.MIN_VALUE, -3, -2, -1, 21, 22, Integer.MAX_VALUE}) {
-            Check.due("2 make(0, " + bad + ", 0)", x.make(0, bad, 0), -1);
-        }
-        Check.due("2 refused changes nothing", x.numberIn(0), 7);
-        Check.due("2 refused makes none", x.count(3), 0);
-        Check.due("2 refused is not full", x.count(4), 0);
-        Check.due("2 make(1, 18, 0)", x.make(1, 18, 0), 1);
-        Check.due("2 refused though full", x.make(0, 21, 0), -1);
-        Check.due("2 refused though full, s", x.make(0, 1, 10), -1);
-        Check.due("2 refused is not full then", x.count(4), 0);
-    }
-
-    private static void makeFull() {
-        SliceHeap x = new SliceHeap(30);
-        x.number(5, 55);
-        Check.due("2 make(0, 18, 5)", x.make(0, 18, 5), 1);
-        Check.due("2 one cell too many", x.make(5, 9, 5), 0);
-        Check.due("2 full does nothing", x.numberIn(5), 55);
-        Check.due("2 full makes none", x.count(3), 1);
-        Check.due("2 full is counted", x.count(4), 1);
-        Check.due("2 full takes no cells", x.count(0), 20);
-        Check.due("2 exactly C", x.make(5, 8, 5), 1);
-        Check.due("2 count(0)", x.count(0), 30);
-        Check.due("2 not one object more", x.make(6, 0, 6), 0);
-        Check.due("2 count(4)", x.count(4), 2);
-    }
-
-    private static void makeCountsWhatTheCallNames() {
-        SliceHeap x = new SliceHeap(20);
-        x.make(0, 18, 1);
-        Check.due("2 what r held still counts", x.make(0, 18, 1), 0);
-        Check.due("2 what r held still counts, n 0", x.make(0, 0, 1), 0);
-        Check.due("2 r still holds it", x.look(0), 18);
-        x.copy(0, -1);
-        Check.due("2 nobody holds it now", x.make(0, 18, 1), 1);
+        Check.due("2 a value NOTHING", x.look(6), States.NOTHING);
     }
 
     // Promise 3
@@ -178,44 +92,7 @@ public final class PromisesTest {
         Check.due("3 an object in itself", x.same(8, 9), 1);
         Check.due("3 grow(9, 7), NOTHING", x.grow(9, 7), 2);
         x.get(8, 9, 1);
-        Check.due("3 a value NOTHING", x.look(8), NOTHING);
-    }
-
-    private static void growRefuses() {
-        SliceHeap x = new SliceHeap(22);
-        x.make(0, 2, 1);
-        x.number(2, 3);
-        for (int bad : NO_REGISTERS) {
-            Check.due("3 grow(" + bad + ", 0)", x.grow(bad, 0), -1);
-            Check.due("3 grow(0, " + bad + ")", x.grow(0, bad), -1);
-        }
-        Check.due("3 grow of NOTHING", x.grow(1, 0), -1);
-        Check.due("3 grow of a number", x.grow(2, 0), -1);
-        Check.due("3 refused changes nothing", x.look(0), 2);
-        Check.due("3 refused is not full", x.count(4), 0);
-        x.copy(0, -1);
-        Check.due("3 make(0, 20, 1)", x.make(0, 20, 1), 1);
-        Check.due("3 20 values and C cells: refused", x.grow(0, 1), -1);
-        Check.due("3 no object and C cells: refused", x.grow(1, 0), -1);
-        Check.due("3 not told as full", x.count(4), 0);
-    }
-
-    private static void growFull() {
-        SliceHeap x = new SliceHeap(20);
-        x.make(0, 17, 1);
-        Check.due("3 exactly C", x.grow(0, 1), 18);
-        Check.due("3 one more", x.grow(0, 1), 0);
-        Check.due("3 full does nothing", x.look(0), 18);
-        Check.due("3 full is counted", x.count(4), 1);
-        Check.due("3 count(0)", x.count(0), 20);
-        Check.due("3 shrink makes room", x.shrink(0), 17);
-        Check.due("3 for one", x.grow(0, 1), 18);
-        x.shrink(0);
-        x.shrink(0);
-        x.make(1, 0, 1);
-        Check.due("3 no room beside another", x.grow(0, 1), 0);
-        x.copy(1, -1);
-        Check.due("3 what nobody reaches makes room", x.grow(0, 1), 17);
+        Check.due("3 a value NOTHING", x.look(8), States.NOTHING);
     }
 
     // Promise 4
@@ -235,9 +112,6 @@ public final class PromisesTest {
         Check.due("4 shrink of NOTHING", x.shrink(5), -1);
         Check.due("4 shrink of a number", x.shrink(1), -1);
         Check.due("4 the number stays", x.numberIn(1), 4);
-        for (int bad : NO_REGISTERS) {
-            Check.due("4 shrink(" + bad + ")", x.shrink(bad), -1);
-        }
         x.make(3, 0, 3);
         x.grow(0, 3);
         x.copy(3, -1);
@@ -253,13 +127,10 @@ public final class PromisesTest {
         int[] numbers = {0, 1, -1, 20, Integer.MIN_VALUE, Integer.MAX_VALUE, -2, -3};
         for (int v : numbers) {
             Check.due("5 number(0, " + v + ")", x.number(0, v), true);
-            Check.due("5 look(0)", x.look(0), NUMBER);
+            Check.due("5 look(0)", x.look(0), States.NUMBER);
             Check.due("5 numberIn(0)", x.numberIn(0), v);
             Check.due("5 number(9, " + v + ")", x.number(9, v), true);
             Check.due("5 numberIn(9)", x.numberIn(9), v);
-        }
-        for (int bad : NO_REGISTERS) {
-            Check.due("5 number(" + bad + ", 1)", x.number(bad, 1), false);
         }
         x.make(0, 2, 1);
         Check.due("5 over an object", x.number(0, 8), true);
@@ -283,18 +154,9 @@ public final class PromisesTest {
         Check.due("6 copy(1, 1)", x.copy(1, 1), true);
         Check.due("6 itself", x.look(1), 3);
         Check.due("6 copy(1, -1)", x.copy(1, -1), true);
-        Check.due("6 NOTHING", x.look(1), NOTHING);
+        Check.due("6 NOTHING", x.look(1), States.NOTHING);
         Check.due("6 copy(0, 2) of NOTHING", x.copy(0, 2), true);
         Check.due("6 the object is let go", x.count(0), 0);
-        x.number(3, 5);
-        for (int bad : NO_REGISTERS) {
-            Check.due("6 copy(" + bad + ", 3)", x.copy(bad, 3), false);
-            Check.due("6 copy(" + bad + ", -1)", x.copy(bad, -1), false);
-            if (bad != -1) {
-                Check.due("6 copy(3, " + bad + ")", x.copy(3, bad), false);
-            }
-        }
-        Check.due("6 false changes nothing", x.numberIn(3), 5);
     }
 
     // Promises 7 and 8
@@ -310,13 +172,6 @@ public final class PromisesTest {
         Check.due("7 get(9, 0, 19)", x.get(9, 0, 19), true);
         Check.due("7 value 19", x.numberIn(9), 32);
         x.number(2, 6);
-        for (int bad : new int[] {Integer.MIN_VALUE, -1, 20, 21, Integer.MAX_VALUE}) {
-            Check.due("7 get(2, 0, " + bad + ")", x.get(2, 0, bad), false);
-        }
-        for (int bad : NO_REGISTERS) {
-            Check.due("7 get(" + bad + ", 0, 0)", x.get(bad, 0, 0), false);
-            Check.due("7 get(2, " + bad + ", 0)", x.get(2, bad, 0), false);
-        }
         Check.due("7 get of a number", x.get(2, 1, 0), false);
         Check.due("7 get of NOTHING", x.get(2, 5, 0), false);
         x.make(4, 0, 4);
@@ -335,17 +190,10 @@ public final class PromisesTest {
         Check.due("8 set(0, 19, 1)", x.set(0, 19, 1), true);
         for (int k = 0; k < 20; k++) {
             x.get(3, 0, k);
-            Check.due("8 value " + k, x.look(3), k == 0 || k == 19 ? NUMBER : NOTHING);
+            Check.due("8 value " + k, x.look(3), k == 0 || k == 19 ? States.NUMBER : States.NOTHING);
         }
         Check.due("8 s stays", x.numberIn(1), 41);
         Check.due("8 look(0)", x.look(0), 20);
-        for (int bad : new int[] {Integer.MIN_VALUE, -1, 20, 21, Integer.MAX_VALUE}) {
-            Check.due("8 set(0, " + bad + ", 1)", x.set(0, bad, 1), false);
-        }
-        for (int bad : NO_REGISTERS) {
-            Check.due("8 set(" + bad + ", 0, 1)", x.set(bad, 0, 1), false);
-            Check.due("8 set(0, 0, " + bad + ")", x.set(0, 0, bad), false);
-        }
         x.get(3, 0, 0);
         Check.due("8 false changes nothing", x.numberIn(3), 41);
         Check.due("8 set of a number", x.set(1, 0, 1), false);
@@ -366,7 +214,7 @@ public final class PromisesTest {
         for (int size = 1; size <= 50; size++) {
             x.number(0, size);
             Check.due("9 push(0)", x.push(0), size);
-            Check.due("9 r holds NOTHING", x.look(0), NOTHING);
+            Check.due("9 r holds NOTHING", x.look(0), States.NOTHING);
             Check.due("9 count(2)", x.count(2), size);
         }
         x.number(9, 77);
@@ -380,28 +228,18 @@ public final class PromisesTest {
         Check.due("10 refused changes nothing", x.numberIn(9), 1);
         Check.due("9 push(9)", x.push(9), 1);
         Check.due("9 push of NOTHING", x.push(9), 2);
-        for (int bad : NO_REGISTERS) {
-            Check.due("9 push(" + bad + ")", x.push(bad), -1);
-        }
         Check.due("9 count(2)", x.count(2), 2);
     }
 
     private static void pop() {
         SliceHeap x = new SliceHeap(20);
-        for (int bad : NO_REGISTERS) {
-            Check.due("10 pop(" + bad + ") with none", x.pop(bad), -1);
-        }
         x.make(0, 1, 0);
         x.copy(1, 0);
         x.push(0);
         x.push(5);
-        for (int bad : NO_REGISTERS) {
-            Check.due("10 pop(" + bad + ")", x.pop(bad), -1);
-        }
-        Check.due("10 refused changes nothing", x.count(2), 2);
         x.number(6, 3);
         Check.due("10 pop(6)", x.pop(6), 1);
-        Check.due("10 NOTHING", x.look(6), NOTHING);
+        Check.due("10 NOTHING", x.look(6), States.NOTHING);
         Check.due("10 pop(6)", x.pop(6), 0);
         Check.due("10 the object", x.same(6, 1), 1);
         Check.due("10 count(2)", x.count(2), 0);
@@ -431,9 +269,6 @@ public final class PromisesTest {
         Check.due("11 none", x.look(0), 0);
         x.make(9, 20, 0);
         Check.due("11 20", x.look(9), 20);
-        for (int bad : NO_REGISTERS) {
-            Check.due("11 look(" + bad + ")", x.look(bad), -1);
-        }
     }
 
     private static void numberIn() {
@@ -443,9 +278,6 @@ public final class PromisesTest {
         x.make(1, 7, 0);
         Check.due("12 of an object", x.numberIn(0), 0);
         Check.due("12 of another", x.numberIn(1), 0);
-        for (int bad : NO_REGISTERS) {
-            Check.due("12 numberIn(" + bad + ")", x.numberIn(bad), 0);
-        }
         x.number(9, Integer.MIN_VALUE);
         Check.due("12 the least", x.numberIn(9), Integer.MIN_VALUE);
         x.number(9, Integer.MAX_VALUE);
@@ -475,11 +307,6 @@ public final class PromisesTest {
         }
         x.copy(5, 3);
         Check.due("13 one object", x.same(5, 3), 1);
-        for (int bad : NO_REGISTERS) {
-            Check.due("13 same(" + bad + ", 0)", x.same(bad, 0), -1);
-            Check.due("13 same(0, " + bad + ")", x.same(0, bad), -1);
-            Check.due("13 same(" + bad + ", " + bad + ")", x.same(bad, bad), -1);
-        }
     }
 
     // Promise 14
@@ -503,9 +330,6 @@ public final class PromisesTest {
         Check.due("14 made in all", x.count(3), 4);
         Check.due("14 how often it was full", x.count(4), 3);
         Check.due("14 cells", x.count(0), 20);
-        for (int bad : new int[] {Integer.MIN_VALUE, -1, 5, 6, Integer.MAX_VALUE}) {
-            Check.due("14 count(" + bad + ")", x.count(bad), -1);
-        }
     }
 
     private static void countOfRingsAndChains() {
@@ -552,11 +376,11 @@ public final class PromisesTest {
         x.make(0, 2, 2);
         Check.due("2 look(0)", x.look(0), 2);
         x.get(3, 0, 1);
-        Check.due("2 nothing is left of the old", x.look(3), NOTHING);
+        Check.due("2 nothing is left of the old", x.look(3), States.NOTHING);
         Check.due("2 nor of its size", x.get(3, 0, 2), false);
         x.grow(0, 2);
         x.get(3, 0, 2);
-        Check.due("3 the new value", x.look(3), NOTHING);
+        Check.due("3 the new value", x.look(3), States.NOTHING);
         Check.due("14 count(0)", x.count(0), 5);
     }
 
@@ -584,7 +408,7 @@ public final class PromisesTest {
         SliceHeap y = new SliceHeap(20);
         x.make(0, 18, 0);
         x.push(1);
-        Check.due("1 another heap's register", y.look(0), NOTHING);
+        Check.due("1 another heap's register", y.look(0), States.NOTHING);
         Check.due("1 another heap's room", y.make(0, 18, 0), 1);
         Check.due("1 another heap's stack", y.count(2), 0);
     }
