@@ -11,6 +11,7 @@ public final class FullTest {
         whatGrowNamesCounts();
         eachHolderReaches();
         eachWayOfLettingGoMakesRoom();
+        whatNobodyReachesNeverCounts();
         deepIsReachable();
         fullOftenIsCounted();
         refusedOftenChangesNothing();
@@ -197,8 +198,8 @@ public final class FullTest {
         x.make(0, 18, 1);
         Check.due("let go " + how, x, 0, "make", 9, 0, 9);
         calls.accept(x);
-        Check.due("let go " + how, x, 0, "count", 0);
         Check.due("let go " + how, x, 0, "count", 1);
+        Check.due("let go " + how, x, 0, "count", 0);
         Check.due("let go " + how, x, 0, "make", 9, 19, 9);
         Check.due("let go " + how, x, 1, "make", 9, 18, 9);
     }
@@ -215,6 +216,21 @@ public final class FullTest {
         Check.due("lost " + how + ", 17 cells or more are free", left >= 17, true);
         Check.due("lost " + how, x, 0, "make", 9, left - 1, 9);
         Check.due("lost " + how, x, 1, "make", 9, left - 2, 9);
+    }
+
+    private static void whatNobodyReachesNeverCounts() {
+        SliceHeap x = new SliceHeap(20);
+        for (int turn = 1; turn <= 60; turn++) {
+            int n = turn * 7 % 19;
+            Check.due("turn " + turn, x, 1, "make", 0, n, 1);
+            Check.due("turn " + turn, x, 1, "count", 1);
+            Check.due("turn " + turn, x, 2 + n, "count", 0);
+            x.copy(0, -1);
+            Check.due("turn " + turn, x, 0, "count", 1);
+            Check.due("turn " + turn, x, 0, "count", 0);
+            Check.due("turn " + turn, x, turn, "count", 3);
+        }
+        Check.due("never full", x, 0, "count", 4);
     }
 
     private static void deepIsReachable() {
