@@ -68,6 +68,10 @@ public final class ModelTest {
         return any == -3 ? Integer.MIN_VALUE : any == 24 ? Integer.MAX_VALUE : any;
     }
 
+    private int number() {
+        return below(8) == 0 ? odd() : below(5) - 2;
+    }
+
     private Call any(String name) {
         switch (name) {
             case "make":
@@ -76,7 +80,7 @@ public final class ModelTest {
             case "get":
                 return new Call(name, register(), register(), size());
             case "number":
-                return new Call(name, register(), below(5) - 2);
+                return new Call(name, register(), number());
             case "copy":
                 return new Call(name, register(), below(6) == 0 ? -1 : register());
             case "grow":
